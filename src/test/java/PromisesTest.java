@@ -1,3 +1,5 @@
+import java.util.Arrays;
+
 /** Each promise by itself: ordinary inputs, the edges that the document names, wrong inputs. */
 public final class PromisesTest {
     private static final int MOST_BLOCKS = 512;
@@ -19,6 +21,7 @@ public final class PromisesTest {
         bestByArrival();
         bestByNumber();
         bestOfMoreWorkNotHeight();
+        bestOfMoreWorkAtOneHeight();
         forkOfBranches();
         forkOfNone();
         dueKeepsTarget();
@@ -105,26 +108,36 @@ public final class PromisesTest {
         check.due("time above the median, below the parent's", x.add(far, 7, 0), 5);
     }
 
-    private static void addIsFull() {
+    /** A chain of 512 blocks, made by 511 calls: one more call is promised an answer. */
+    private static WorkTree full() {
         WorkTree x = new WorkTree();
         for (int block = 1; block < MOST_BLOCKS; block++) {
             check.due("add of block " + block, x.add(block - 1, block, 0), block);
         }
-        check.due("full: blocks()", x.blocks(), MOST_BLOCKS);
-        check.due("full: add(511, 512, 0)", x.add(511, 512, 0), WorkTree.FULL);
-        check.due("full: add(0, 1, 0)", x.add(0, 1, 0), WorkTree.FULL);
-        check.due("full: no such parent first", x.add(512, 999, 0), WorkTree.REFUSED);
-        check.due("full: least parent first", x.add(Integer.MIN_VALUE, 999, 0), WorkTree.REFUSED);
-        check.due("full: time first", x.add(0, 0, 0), WorkTree.REFUSED);
-        check.due("full: arrival first", x.add(0, 1, -1), WorkTree.REFUSED);
-        check.due("full: blocks() still", x.blocks(), MOST_BLOCKS);
-        check.due("full: best()", x.best(), 511);
-        check.due("full: ancestor(511, 0)", x.ancestor(511, 0), 0);
-        check.due("full: look(511, 0)", x.look(511, 0), 511);
-        check.due("full: look(512, 0)", x.look(512, 0), WorkTree.NONE);
-        check.due("full: refuse(511)", x.refuse(511), 510);
-        check.due("full: refuse(512)", x.refuse(512), WorkTree.REFUSED);
-        check.due("full: refuse(1)", x.refuse(1), 0);
+        return x;
+    }
+
+    private static void addIsFull() {
+        check.due("full: add(511, 512, 0)", full().add(511, 512, 0), WorkTree.FULL);
+        check.due("full: add(0, 1, 0)", full().add(0, 1, 0), WorkTree.FULL);
+        check.due("full: no such parent first", full().add(512, 999, 0), WorkTree.REFUSED);
+        check.due("full: least parent first", full().add(Integer.MIN_VALUE, 999, 0), WorkTree.REFUSED);
+        check.due("full: time first", full().add(0, 0, 0), WorkTree.REFUSED);
+        check.due("full: arrival first", full().add(0, 1, -1), WorkTree.REFUSED);
+        check.due("full: blocks()", full().blocks(), MOST_BLOCKS);
+        check.due("full: best()", full().best(), 511);
+        check.due("full: fork(511, 300)", full().fork(511, 300), 300);
+        check.due("full: median(511)", full().median(511), 508);
+        check.due("full: due(511)", full().due(511), 2048);
+        check.due("full: ancestor(511, 0)", full().ancestor(511, 0), 0);
+        check.due("full: ancestor(511, 512)", full().ancestor(511, 512), WorkTree.NONE);
+        check.due("full: look(511, 0)", full().look(511, 0), 511);
+        // 7 blocks of target 32768, 8 of 8192, and 496 of 2048
+        check.due("full: look(511, 4)", full().look(511, 4), 7 * 512 + 8 * 2048 + 496 * 8192);
+        check.due("full: look(512, 0)", full().look(512, 0), WorkTree.NONE);
+        check.due("full: refuse(511)", full().refuse(511), 510);
+        check.due("full: refuse(512)", full().refuse(512), WorkTree.REFUSED);
+        check.due("full: refuse(1)", full().refuse(1), 0);
     }
 
     private static void addToWrongParent() {
@@ -253,6 +266,15 @@ public final class PromisesTest {
         check.due("work of the slow branch", x.look(slow, 4), 7 * 512 + 3 * 256);
         check.due("work of the fast branch", x.look(fast, 4), 7 * 512 + 2048);
         check.due("the lower one has more work", x.best(), fast);
+    }
+
+    private static void bestOfMoreWorkAtOneHeight() {
+        WorkTree x = new WorkTree();
+        int root = chain(x, 0, 1, 2, 3, 4, 5, 6);
+        int slow = chain(x, root, 1000, 1001);
+        int fast = x.add(chain(x, root, 7), 8, 50);
+        check.due("more work, same height, later arrival", x.best(), fast);
+        check.due("refuse of it", x.refuse(fast), slow);
     }
 
     // promise 5
@@ -423,20 +445,21 @@ public final class PromisesTest {
         check.due("median of a wrong one", x.median(9), 60);
     }
 
-    private static void medianOutOfOrder() {
+    /** The medians of block 0 and of a chain with these times behind it. */
+    private static void mediansOfChain(int[] times, int... due) {
         WorkTree x = new WorkTree();
-        chain(x, 0, 50, 70, 60, 65, 61, 62, 64, 63);
-        // 0 50 | 0 50 70 | 0 50 60 70 | 0 50 60 65 70 | 0 50 60 61 65 70 | ...
-        int[] due = {0, 50, 50, 60, 60, 61, 61, 62, 63};
+        chain(x, 0, times);
         for (int block = 0; block < due.length; block++) {
-            check.due("out of order: median(" + block + ")", x.median(block), due[block]);
+            check.due("chain of " + Arrays.toString(times) + ": median(" + block + ")", x.median(block), due[block]);
         }
-        WorkTree y = new WorkTree();
-        chain(y, 0, 5, 9, 9, 10, 10, 10, 10);
-        int[] equal = {0, 5, 5, 9, 9, 9, 9, 10};
-        for (int block = 0; block < equal.length; block++) {
-            check.due("with equal times: median(" + block + ")", y.median(block), equal[block]);
-        }
+    }
+
+    private static void medianOutOfOrder() {
+        mediansOfChain(new int[] {50, 70, 60, 65, 61, 62, 64, 63}, 0, 50, 50, 60, 60, 61, 61, 62, 63);
+        // Equal times stand beside one another.
+        mediansOfChain(new int[] {5, 9, 9, 10, 10, 10, 10}, 0, 5, 5, 9, 9, 9, 9, 10);
+        // The far time counts for seven blocks, and then no more.
+        mediansOfChain(new int[] {1, 2, 500, 3, 4, 5, 6, 7, 8, 9}, 0, 1, 1, 2, 2, 3, 3, 4, 5, 6, 6);
     }
 
     private static void medianFollowsItsOwnBranch() {
