@@ -42,30 +42,13 @@ public final class PromisesTest {
         check.end();
     }
 
-    /** Adds a chain of blocks with the given times behind a parent; answers the last one. */
-    private static int chain(WorkTree x, int parent, int... times) {
-        int last = parent;
-        for (int time : times) {
-            int block = x.add(last, time, 0);
-            check.due("add(" + last + ", " + time + ", 0)", block, x.blocks() - 1);
-            last = block;
-        }
-        return last;
-    }
-
-    private static void looksLike(WorkTree x, int block, long... due) {
-        for (int what = 0; what < due.length; what++) {
-            check.due("look(" + block + ", " + what + ")", x.look(block, what), due[what]);
-        }
-    }
-
     // promise 1
 
     private static void newObject() {
         WorkTree x = new WorkTree();
         check.due("new: blocks()", x.blocks(), 1);
         check.due("new: best()", x.best(), 0);
-        looksLike(x, 0, 0, WorkTree.NONE, 0, 32768, 0, 0);
+        check.looksLike(x, 0, 0, WorkTree.NONE, 0, 32768, 0, 0);
         check.due("new: median(0)", x.median(0), 0);
         check.due("new: due(0)", x.due(0), 32768);
         check.due("new: fork(0, 0)", x.fork(0, 0), 0);
@@ -82,9 +65,9 @@ public final class PromisesTest {
         check.due("add(0, 1, 9)", x.add(0, 1, 9), 1);
         check.due("add(0, 30, 0)", x.add(0, 30, 0), 2);
         check.due("add(1, 40, max)", x.add(1, 40, Integer.MAX_VALUE), 3);
-        looksLike(x, 1, 1, 0, 1, 32768, 512, 0);
-        looksLike(x, 2, 1, 0, 30, 32768, 512, 0);
-        looksLike(x, 3, 2, 1, 40, 32768, 1024, 0);
+        check.looksLike(x, 1, 1, 0, 1, 32768, 512, 0);
+        check.looksLike(x, 2, 1, 0, 30, 32768, 512, 0);
+        check.looksLike(x, 3, 2, 1, 40, 32768, 1024, 0);
     }
 
     private static void addRefuses() {
@@ -103,7 +86,7 @@ public final class PromisesTest {
         check.due("time just above the median", x.add(1, 6, 0), 2);
         check.due("time at the median of three", x.add(2, 5, 0), WorkTree.REFUSED);
         check.due("time above the median, at the parent's", x.add(2, 6, 0), 3);
-        int far = chain(x, 2, 100);
+        int far = check.chain(x, 2, 100);
         check.due("time at the median of four", x.add(far, 6, 0), WorkTree.REFUSED);
         check.due("time above the median, below the parent's", x.add(far, 7, 0), 5);
     }
@@ -142,25 +125,25 @@ public final class PromisesTest {
 
     private static void addToWrongParent() {
         WorkTree x = new WorkTree();
-        chain(x, 0, 10);
+        check.chain(x, 0, 10);
         check.due("refuse(1)", x.refuse(1), 0);
         check.due("add to a wrong parent", x.add(1, 20, 0), 2);
-        looksLike(x, 2, 2, 1, 20, 32768, 1024, 1);
+        check.looksLike(x, 2, 2, 1, 20, 32768, 1024, 1);
         check.due("its child", x.add(2, 30, 0), 3);
-        looksLike(x, 3, 3, 2, 30, 32768, 1536, 1);
+        check.looksLike(x, 3, 3, 2, 30, 32768, 1536, 1);
         check.due("best() with wrong ones alone", x.best(), 0);
         check.due("wrong parent, time at the median", x.add(1, 10, 0), WorkTree.REFUSED);
     }
 
     private static void workGrows() {
         WorkTree x = new WorkTree();
-        int last = chain(x, 0, 1, 2, 3, 4, 5, 6, 30);
+        int last = check.chain(x, 0, 1, 2, 3, 4, 5, 6, 30);
         check.due("work of 7", x.look(last, 4), 7 * 512);
-        last = chain(x, last, 31);
+        last = check.chain(x, last, 31);
         // 32768 * 30 / 80 = 12288, and 16777216 / 12288 = 1365.33
         check.due("target of 8", x.look(last, 3), 12288);
         check.due("work of 8, rounded down", x.look(last, 4), 7 * 512 + 1365);
-        last = chain(x, last, 32);
+        last = check.chain(x, last, 32);
         check.due("work of 9, each rounded by itself", x.look(last, 4), 7 * 512 + 2 * 1365);
     }
 
@@ -168,9 +151,9 @@ public final class PromisesTest {
 
     private static void refuseTakesDescendants() {
         WorkTree x = new WorkTree();
-        chain(x, 0, 10, 20, 30);
-        chain(x, 1, 21, 31);
-        chain(x, 0, 5);
+        check.chain(x, 0, 10, 20, 30);
+        check.chain(x, 1, 21, 31);
+        check.chain(x, 0, 5);
         check.due("refuse(2)", x.refuse(2), 5);
         int[] due = {0, 0, 1, 1, 0, 0, 0};
         for (int block = 0; block < due.length; block++) {
@@ -186,7 +169,7 @@ public final class PromisesTest {
 
     private static void refuseRefuses() {
         WorkTree x = new WorkTree();
-        chain(x, 0, 10);
+        check.chain(x, 0, 10);
         check.due("refuse(0)", x.refuse(0), WorkTree.REFUSED);
         check.due("refuse(2)", x.refuse(2), WorkTree.REFUSED);
         for (int none : NO_BLOCKS) {
@@ -194,25 +177,25 @@ public final class PromisesTest {
         }
         check.due("block 0 is not wrong", x.look(0, 5), 0);
         check.due("block 1 is not wrong", x.look(1, 5), 0);
-        check.due("a refusal that came too early", chain(x, 1, 20), 2);
+        check.due("a refusal that came too early", check.chain(x, 1, 20), 2);
         check.due("does not hold later", x.look(2, 5), 0);
     }
 
     private static void refuseAgain() {
         WorkTree x = new WorkTree();
-        chain(x, 0, 10, 20);
+        check.chain(x, 0, 10, 20);
         check.due("refuse(1)", x.refuse(1), 0);
         check.due("refuse(1) again", x.refuse(1), 0);
         check.due("refuse(2), wrong by its parent", x.refuse(2), 0);
-        chain(x, 0, 11);
+        check.chain(x, 0, 11);
         check.due("refuse(2) again", x.refuse(2), 3);
         check.due("look(1, 5)", x.look(1, 5), 1);
     }
 
     private static void refuseLeavesOtherBranches() {
         WorkTree x = new WorkTree();
-        chain(x, 0, 10, 20, 30);
-        chain(x, 0, 10, 20);
+        check.chain(x, 0, 10, 20, 30);
+        check.chain(x, 0, 10, 20);
         check.due("refuse of one that is not best", x.refuse(5), 3);
         check.due("refuse of the best", x.refuse(3), 2);
         check.due("look(4, 5)", x.look(4, 5), 0);
@@ -257,10 +240,10 @@ public final class PromisesTest {
 
     private static void bestOfMoreWorkNotHeight() {
         WorkTree x = new WorkTree();
-        int root = chain(x, 0, 1, 2, 3, 4, 5, 6);
+        int root = check.chain(x, 0, 1, 2, 3, 4, 5, 6);
         // Behind a slow block 7 the target is easy, behind a fast one it is hard.
-        int slow = chain(x, root, 1000, 1001, 1002, 1003);
-        int fast = chain(x, root, 7, 8);
+        int slow = check.chain(x, root, 1000, 1001, 1002, 1003);
+        int fast = check.chain(x, root, 7, 8);
         check.due("height of the slow branch", x.look(slow, 0), 10);
         check.due("height of the fast branch", x.look(fast, 0), 8);
         check.due("work of the slow branch", x.look(slow, 4), 7 * 512 + 3 * 256);
@@ -270,9 +253,9 @@ public final class PromisesTest {
 
     private static void bestOfMoreWorkAtOneHeight() {
         WorkTree x = new WorkTree();
-        int root = chain(x, 0, 1, 2, 3, 4, 5, 6);
-        int slow = chain(x, root, 1000, 1001);
-        int fast = x.add(chain(x, root, 7), 8, 50);
+        int root = check.chain(x, 0, 1, 2, 3, 4, 5, 6);
+        int slow = check.chain(x, root, 1000, 1001);
+        int fast = x.add(check.chain(x, root, 7), 8, 50);
         check.due("more work, same height, later arrival", x.best(), fast);
         check.due("refuse of it", x.refuse(fast), slow);
     }
@@ -281,9 +264,9 @@ public final class PromisesTest {
 
     private static void forkOfBranches() {
         WorkTree x = new WorkTree();
-        chain(x, 0, 10, 20, 30, 40);
-        chain(x, 2, 31, 41, 51, 61);
-        chain(x, 0, 10);
+        check.chain(x, 0, 10, 20, 30, 40);
+        check.chain(x, 2, 31, 41, 51, 61);
+        check.chain(x, 0, 10);
         int[][] due = {
             {4, 8, 2}, {3, 5, 2}, {4, 5, 2}, {3, 8, 2}, {4, 4, 4}, {2, 4, 2}, {2, 8, 2},
             {1, 8, 1}, {5, 8, 5}, {9, 8, 0}, {9, 1, 0}, {9, 9, 9}, {0, 8, 0}, {0, 0, 0}, {7, 6, 6}
@@ -298,7 +281,7 @@ public final class PromisesTest {
 
     private static void forkOfNone() {
         WorkTree x = new WorkTree();
-        chain(x, 0, 10);
+        check.chain(x, 0, 10);
         for (int none : NO_BLOCKS) {
             check.due("fork(0, " + none + ")", x.fork(0, none), WorkTree.NONE);
             check.due("fork(" + none + ", 1)", x.fork(none, 1), WorkTree.NONE);
@@ -316,7 +299,7 @@ public final class PromisesTest {
             check.due("due(" + none + ")", x.due(none), WorkTree.NONE);
         }
         check.due("due(1)", x.due(1), WorkTree.NONE);
-        chain(x, 0, 1, 2, 3, 4, 5, 6, 7, 8);
+        check.chain(x, 0, 1, 2, 3, 4, 5, 6, 7, 8);
         for (int block = 0; block < 7; block++) {
             check.due("due(" + block + ")", x.due(block), 32768);
         }
@@ -332,9 +315,9 @@ public final class PromisesTest {
     /** What is due behind a block 7 of this time, with block 0 at time 0. */
     private static void dueAfter(int time, int due) {
         WorkTree x = new WorkTree();
-        int last = chain(x, 0, 1, 2, 3, 4, 5, 6, time);
+        int last = check.chain(x, 0, 1, 2, 3, 4, 5, 6, time);
         check.due("due behind time " + time, x.due(last), due);
-        int child = chain(x, last, Integer.MAX_VALUE);
+        int child = check.chain(x, last, Integer.MAX_VALUE);
         check.due("target behind time " + time, x.look(child, 3), due);
     }
 
@@ -356,11 +339,11 @@ public final class PromisesTest {
 
     private static void dueTwice() {
         WorkTree x = new WorkTree();
-        int last = chain(x, 0, 1, 2, 3, 4, 5, 6, 7);
-        last = chain(x, last, 1000, 1001, 1002, 1003, 1004, 1005, 1006);
+        int last = check.chain(x, 0, 1, 2, 3, 4, 5, 6, 7);
+        last = check.chain(x, last, 1000, 1001, 1002, 1003, 1004, 1005, 1006);
         check.due("due at height 14", x.due(last), 8192);
         // The span is from height 8 to height 15: 1055 - 1000.
-        last = chain(x, last, 1055);
+        last = check.chain(x, last, 1055);
         check.due("due at height 15", x.due(last), 8192 * 55 / 80);
     }
 
@@ -371,47 +354,47 @@ public final class PromisesTest {
         int[] due = {8192, 2048, 2048};
         for (int period = 0; period < due.length; period++) {
             for (int height = period == 0 ? 1 : 0; height < 8; height++) {
-                last = chain(x, last, ++time);
+                last = check.chain(x, last, ++time);
             }
             check.due("due in a fast period " + period, x.due(last), due[period]);
         }
         // From the least target the greatest span leads to four times as much, and no further.
-        last = chain(x, last, 1000, 1001, 1002, 1003, 1004, 1005, 1006);
-        check.due("span 319", x.due(chain(x, last, 1319)), 2048 * 319 / 80);
-        check.due("span 320", x.due(chain(x, last, 1320)), 8192);
-        check.due("span 321", x.due(chain(x, last, 1321)), 8192);
+        last = check.chain(x, last, 1000, 1001, 1002, 1003, 1004, 1005, 1006);
+        check.due("span 319", x.due(check.chain(x, last, 1319)), 2048 * 319 / 80);
+        check.due("span 320", x.due(check.chain(x, last, 1320)), 8192);
+        check.due("span 321", x.due(check.chain(x, last, 1321)), 8192);
         dueNearLeast();
     }
 
     private static void dueNearLeast() {
         WorkTree x = new WorkTree();
-        int last = chain(x, 0, 1, 2, 3, 4, 5, 6, 7);
-        last = chain(x, last, 100, 101, 102, 103, 104, 105, 106);
-        check.due("span 20 of 8192", x.due(chain(x, last, 120)), 2048);
-        last = chain(x, last, 121);
+        int last = check.chain(x, 0, 1, 2, 3, 4, 5, 6, 7);
+        last = check.chain(x, last, 100, 101, 102, 103, 104, 105, 106);
+        check.due("span 20 of 8192", x.due(check.chain(x, last, 120)), 2048);
+        last = check.chain(x, last, 121);
         check.due("span 21 of 8192", x.due(last), 2150);
-        last = chain(x, last, 200, 201, 202, 203, 204, 205, 206, 207);
+        last = check.chain(x, last, 200, 201, 202, 203, 204, 205, 206, 207);
         check.due("span 20 of 2150 is held at the least", x.due(last), 2048);
     }
 
     private static void dueWithTimesThatFall() {
         WorkTree x = new WorkTree();
-        int last = chain(x, 0, 1, 2, 3, 4, 5, 6, 80);
+        int last = check.chain(x, 0, 1, 2, 3, 4, 5, 6, 80);
         // Height 8 is far ahead, so the span to height 15 is below 0.
-        last = chain(x, last, Integer.MAX_VALUE, 81, 82, 83, 84, 85, 86, 87);
+        last = check.chain(x, last, Integer.MAX_VALUE, 81, 82, 83, 84, 85, 86, 87);
         check.due("height", x.look(last, 0), 15);
         check.due("a span below 0 counts as 20", x.due(last), 8192);
     }
 
     private static void dueFollowsItsOwnBranch() {
         WorkTree x = new WorkTree();
-        int root = chain(x, 0, 1, 2, 3, 4, 5, 6);
-        int one = chain(x, root, 40);
-        int two = chain(x, root, 120);
+        int root = check.chain(x, 0, 1, 2, 3, 4, 5, 6);
+        int one = check.chain(x, root, 40);
+        int two = check.chain(x, root, 120);
         check.due("due of one", x.due(one), 16384);
         check.due("due of two", x.due(two), 49152);
-        one = chain(x, one, 200, 201, 202, 203, 204, 205, 206, 240);
-        two = chain(x, two, 200, 201, 202, 203, 204, 205, 206, 240);
+        one = check.chain(x, one, 200, 201, 202, 203, 204, 205, 206, 240);
+        two = check.chain(x, two, 200, 201, 202, 203, 204, 205, 206, 240);
         check.due("due of one, later", x.due(one), 8192);
         check.due("due of two, later", x.due(two), 24576);
     }
@@ -424,7 +407,7 @@ public final class PromisesTest {
             check.due("median(" + none + ")", x.median(none), WorkTree.NONE);
         }
         check.due("median(1)", x.median(1), WorkTree.NONE);
-        chain(x, 0, 10, 20, 30, 40, 50);
+        check.chain(x, 0, 10, 20, 30, 40, 50);
         int[] due = {0, 10, 10, 20, 20, 30};
         for (int block = 0; block < due.length; block++) {
             check.due("median(" + block + ")", x.median(block), due[block]);
@@ -434,7 +417,7 @@ public final class PromisesTest {
 
     private static void medianOfSeven() {
         WorkTree x = new WorkTree();
-        chain(x, 0, 10, 20, 30, 40, 50, 60, 70, 80, 90);
+        check.chain(x, 0, 10, 20, 30, 40, 50, 60, 70, 80, 90);
         int[] due = {30, 40, 50, 60};
         for (int block = 6; block < 6 + due.length; block++) {
             check.due("median(" + block + ")", x.median(block), due[block - 6]);
@@ -448,7 +431,7 @@ public final class PromisesTest {
     /** The medians of block 0 and of a chain with these times behind it. */
     private static void mediansOfChain(int[] times, int... due) {
         WorkTree x = new WorkTree();
-        chain(x, 0, times);
+        check.chain(x, 0, times);
         for (int block = 0; block < due.length; block++) {
             check.due("chain of " + Arrays.toString(times) + ": median(" + block + ")", x.median(block), due[block]);
         }
@@ -464,9 +447,9 @@ public final class PromisesTest {
 
     private static void medianFollowsItsOwnBranch() {
         WorkTree x = new WorkTree();
-        chain(x, 0, 10, 20);
-        int one = chain(x, 1, 100, 200, 300);
-        int two = chain(x, 1, 11, 12, 13);
+        check.chain(x, 0, 10, 20);
+        int one = check.chain(x, 1, 100, 200, 300);
+        int two = check.chain(x, 1, 11, 12, 13);
         check.due("median of one", x.median(one), 100);
         check.due("median of two", x.median(two), 11);
     }
@@ -475,8 +458,8 @@ public final class PromisesTest {
 
     private static void ancestors() {
         WorkTree x = new WorkTree();
-        chain(x, 0, 10, 20, 30);
-        chain(x, 1, 21, 31);
+        check.chain(x, 0, 10, 20, 30);
+        check.chain(x, 1, 21, 31);
         int[] due = {0, 1, 4, 5};
         for (int height = 0; height < due.length; height++) {
             check.due("ancestor(5, " + height + ")", x.ancestor(5, height), due[height]);
@@ -500,14 +483,14 @@ public final class PromisesTest {
 
     private static void looks() {
         WorkTree x = new WorkTree();
-        chain(x, 0, 10, 25);
-        looksLike(x, 0, 0, WorkTree.NONE, 0, 32768, 0, 0);
-        looksLike(x, 1, 1, 0, 10, 32768, 512, 0);
-        looksLike(x, 2, 2, 1, 25, 32768, 1024, 0);
+        check.chain(x, 0, 10, 25);
+        check.looksLike(x, 0, 0, WorkTree.NONE, 0, 32768, 0, 0);
+        check.looksLike(x, 1, 1, 0, 10, 32768, 512, 0);
+        check.looksLike(x, 2, 2, 1, 25, 32768, 1024, 0);
         x.refuse(1);
-        looksLike(x, 0, 0, WorkTree.NONE, 0, 32768, 0, 0);
-        looksLike(x, 1, 1, 0, 10, 32768, 512, 1);
-        looksLike(x, 2, 2, 1, 25, 32768, 1024, 1);
+        check.looksLike(x, 0, 0, WorkTree.NONE, 0, 32768, 0, 0);
+        check.looksLike(x, 1, 1, 0, 10, 32768, 512, 1);
+        check.looksLike(x, 2, 2, 1, 25, 32768, 1024, 1);
         int[] others = {-1, 6, 7, Integer.MIN_VALUE, Integer.MAX_VALUE};
         for (int what : others) {
             check.due("look(1, " + what + ")", x.look(1, what), WorkTree.REFUSED);
@@ -537,7 +520,7 @@ public final class PromisesTest {
 
     private static void refusedCallsChangeNothing() {
         WorkTree x = new WorkTree();
-        chain(x, 0, 10, 20);
+        check.chain(x, 0, 10, 20);
         x.add(9, 50, 0);
         x.add(2, 10, 0);
         x.add(2, 50, -1);
@@ -546,14 +529,14 @@ public final class PromisesTest {
         x.look(2, 9);
         check.due("blocks()", x.blocks(), 3);
         check.due("best()", x.best(), 2);
-        looksLike(x, 2, 2, 1, 20, 32768, 1024, 0);
+        check.looksLike(x, 2, 2, 1, 20, 32768, 1024, 0);
         check.due("the next number", x.add(2, 30, 0), 3);
-        looksLike(x, 3, 3, 2, 30, 32768, 1536, 0);
+        check.looksLike(x, 3, 3, 2, 30, 32768, 1536, 0);
     }
 
     private static void objectsAreApart() {
         WorkTree x = new WorkTree();
-        chain(x, 0, 10, 20);
+        check.chain(x, 0, 10, 20);
         WorkTree y = new WorkTree();
         check.due("blocks() of another", y.blocks(), 1);
         y.add(0, 7, 0);
