@@ -1,8 +1,6 @@
 /**
  * A tree of blocks, each with the work of its chain: which branch is the best,
  * where two part, how hard the next block must be.
- *
- * A parent always has a lower number than its children; several methods rest on that.
  */
 public final class WorkTree {
     public static final int REFUSED = -1, NONE = -2, FULL = -3;
@@ -62,7 +60,7 @@ public final class WorkTree {
             return REFUSED;
         }
         wrong[block] = true;
-        // One pass upwards is enough, as every parent is met before its children.
+        // A parent always has a lower number than its children, so one pass upwards is enough.
         for (int later = block + 1; later < count; later++) {
             if (wrong[parents[later]]) {
                 wrong[later] = true;
